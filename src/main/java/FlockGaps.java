@@ -452,22 +452,18 @@ public final class FlockGaps {
         }
 
         private int wordNumber() {
-            for (int word = 0; word < WORD_OTHER; word++) {
-                if (isWord(word)) {
-                    return word;
+            long letters = 0;
+            for (int i = 0; i < WORDS.length(); i++) {
+                char sign = WORDS.charAt(i);
+                letters = isLetter(sign) ? letters * 27 + (sign - 'a' + 1) : letters;
+                if (i % WORD_SIGNS == WORD_SIGNS - 1) {
+                    if (letters == name) {
+                        return i / WORD_SIGNS;
+                    }
+                    letters = 0;
                 }
             }
             return WORD_OTHER;
-        }
-
-        private boolean isWord(int word) {
-            for (int i = 0; i < WORD_SIGNS; i++) {
-                char sign = start + i < behind ? signs[start + i] : ' ';
-                if (sign != WORDS.charAt(word * WORD_SIGNS + i)) {
-                    return false;
-                }
-            }
-            return true;
         }
 
         private static boolean isLetter(char sign) {
@@ -492,6 +488,12 @@ public final class FlockGaps {
         final int[] code = new int[MOST_SIGNS];
         final int[] stack = new int[STACK];
         int length;
+        boolean isTold;
+
+        void begin() {
+            length = 0;
+            isTold = true;
+        }
 
         void addNumber(int number) {
             if (length < MOST_SIGNS) {
@@ -504,8 +506,10 @@ public final class FlockGaps {
             addNumber(-1 - token);
         }
 
+        /** What holds as long as nothing is told. */
         void beFact(int word) {
             length = 0;
+            isTold = false;
             addToken(word);
         }
 
@@ -589,8 +593,6 @@ public final class FlockGaps {
         Law law;
         int fault;
         boolean fieldTold;
-        boolean lieTold;
-        boolean strayTold;
 
         Reader(Tape tape, Flock first) {
             this.tape = tape;
@@ -603,8 +605,6 @@ public final class FlockGaps {
             told = into;
             fault = 0;
             fieldTold = false;
-            lieTold = false;
-            strayTold = false;
             tape.rewind();
             for (int i = 0; i < MOST_SIGNS && tape.token != END; i++) {
                 if (!readOne() || !passed(';')) {
@@ -619,9 +619,9 @@ public final class FlockGaps {
                 case WORD_FIELD: return readField();
                 case WORD_BEAST: return readBeast();
                 case WORD_LIKE: return readLike();
-                case WORD_LIE: return readLie();
+                case WORD_LIE: return readLaw(told.lie);
                 case WORD_MEADOW: return readMeadow();
-                case WORD_STRAY: return readStray();
+                case WORD_STRAY: return readLaw(told.stray);
                 default: return wrong(FAULT_TOKEN);
             }
         }
@@ -775,26 +775,12 @@ public final class FlockGaps {
             return true;
         }
 
-        private boolean readLie() {
-            if (lieTold) {
+        private boolean readLaw(Law which) {
+            if (which.isTold) {
                 return wrong(FAULT_TWICE);
             }
-            lieTold = true;
-            law = told.lie;
-            return readLaw();
-        }
-
-        private boolean readStray() {
-            if (strayTold) {
-                return wrong(FAULT_TWICE);
-            }
-            strayTold = true;
-            law = told.stray;
-            return readLaw();
-        }
-
-        private boolean readLaw() {
-            law.length = 0;
+            law = which;
+            law.begin();
             tape.next();
             return readJoined(0, 0);
         }

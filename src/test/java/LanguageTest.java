@@ -1,0 +1,109 @@
+import java.lang.reflect.Constructor;
+import java.lang.reflect.Field;
+import java.lang.reflect.Member;
+import java.lang.reflect.Method;
+import java.lang.reflect.Modifier;
+import java.nio.file.Files;
+import java.nio.file.Path;
+import java.util.ArrayList;
+import java.util.Arrays;
+import java.util.List;
+import java.util.Set;
+import java.util.TreeSet;
+import java.util.regex.Matcher;
+import java.util.regex.Pattern;
+
+/** The face of the document, and the rules of LANGUAGE.md that can be read off the text. Run from the project's root. */
+public final class LanguageTest {
+    private static final String[] FACE = {
+        "int feed(long, long, long)", "int flock()", "int beast(int, int)", "int liking(int, int)", "int place(int)",
+        "boolean away(int, boolean)", "int evening(int)", "int settled()", "int beside(int, int)", "int friends(int)",
+        "int seen(int, boolean)", "int heard(int, int)", "int uneasy(int, int, boolean)", "boolean clear()", "int fits()",
+        "int fit(int)", "int sure(boolean)", "int looks(int)", "int odds(int, int, int)", "long search(int, int)",
+        "int parted(int, int, int, int)", "boolean undo()", "boolean mark(int, boolean)", "int count(int)"};
+    private static int wrong;
+
+    private static void fail(String what) {
+        wrong++;
+        System.out.println(what);
+    }
+
+    private static String signature(Method m) {
+        StringBuilder s = new StringBuilder(m.getReturnType() + " " + m.getName() + "(");
+        for (Class<?> p : m.getParameterTypes()) s.append(s.charAt(s.length() - 1) == '(' ? "" : ", ").append(p);
+        return s.append(")").toString();
+    }
+
+    private static boolean isHidden(Member m) {
+        return m.isSynthetic() || Modifier.isPrivate(m.getModifiers());
+    }
+
+    private static void face() {
+        Class<?> c = FlockGaps.class;
+        if (!Modifier.isFinal(c.getModifiers()) || !Modifier.isPublic(c.getModifiers())) fail("the class is public and final");
+        Set<String> seen = new TreeSet<>();
+        Set<String> names = new TreeSet<>();
+        for (Method m : c.getDeclaredMethods()) {
+            if (Modifier.isPublic(m.getModifiers())) {
+                seen.add(signature(m));
+                names.add(m.getName());
+            } else if (!isHidden(m)) {
+                fail("not private: " + m);
+            }
+        }
+        if (!seen.equals(new TreeSet<>(Arrays.asList(FACE)))) fail("the face is " + seen);
+        for (Method m : c.getDeclaredMethods()) {
+            if (!Modifier.isPublic(m.getModifiers()) && names.contains(m.getName())) fail("bears a public name: " + m);
+        }
+        for (Field f : c.getDeclaredFields()) {
+            if (Modifier.isPublic(f.getModifiers()) ? !f.getName().equals("NONE") : !isHidden(f)) fail("not of the face: " + f);
+        }
+        Constructor<?>[] made = c.getDeclaredConstructors();
+        if (made.length != 1 || !Modifier.isPublic(made[0].getModifiers()) || made[0].getParameterCount() != 0) fail("one public constructor");
+        if (c.getDeclaredClasses().length > 12) fail("too many classes");
+        for (Class<?> inside : c.getDeclaredClasses()) inside(inside, names);
+    }
+
+    private static void inside(Class<?> c, Set<String> names) {
+        if (!Modifier.isStatic(c.getModifiers())) fail("not static: " + c);
+        int fields = 0;
+        for (Field f : c.getDeclaredFields()) {
+            fields += Modifier.isStatic(f.getModifiers()) ? 0 : 1;
+            if (Modifier.isStatic(f.getModifiers()) && !Modifier.isFinal(f.getModifiers())) fail("static state: " + f);
+        }
+        if (fields > 20) fail("too many fields: " + c);
+        for (Method m : c.getDeclaredMethods()) {
+            if (names.contains(m.getName())) fail("bears a public name: " + m);
+            if (m.getParameterCount() > 7) fail("too many parameters: " + m);
+        }
+    }
+
+    private static void text() throws Exception {
+        String text = Files.readString(Path.of("src/main/java/FlockGaps.java"));
+        for (char sign : text.toCharArray()) if (sign > 126) fail("a sign beyond 126");
+        String bare = text.replaceAll("(?s)/\\*.*?\\*/", "").replaceAll("\"[^\"\n]*\"", "S").replaceAll("//[^\n]*", "");
+        String[] forbidden = {"\\bthrow\\b", "\\bthrows\\b", "\\btry\\b", "\\bcatch\\b", "\\bsynchronized\\b", "\\bassert\\b", "->", "::",
+            "\\bpackage\\b", "\\bstatic \\{", "Exact\\b", "\\bObject\\b", "\\bhashCode\\b", "\\bequals\\b", "\\bvar\\b", "while \\(true", "\\bS \\+|\\+ S\\b"};
+        for (String f : forbidden) {
+            Matcher m = Pattern.compile(f).matcher(bare);
+            if (m.find()) fail("not in the language: " + m.group());
+        }
+        Matcher imports = Pattern.compile("(?m)^import (.*);").matcher(bare);
+        while (imports.find()) if (!imports.group(1).equals("java.util.Arrays")) fail("import " + imports.group(1));
+        List<String> lines = new ArrayList<>(bare.lines().toList());
+        for (int i = 0; i < lines.size(); i++) {
+            Matcher m = Pattern.compile("^( +)[^ ].*\\) \\{$").matcher(lines.get(i));
+            if (!m.find() || Pattern.compile("\\b(if|for|while|switch|else)\\b").matcher(lines.get(i)).find()) continue;
+            int end = i;
+            while (!lines.get(end).equals(m.group(1) + "}")) end++;
+            if (end - i > 60) fail("a long method: " + lines.get(i));
+        }
+    }
+
+    public static void main(String[] args) throws Exception {
+        face();
+        text();
+        System.out.println(wrong == 0 ? "the face and the language are as told" : wrong + " rules are broken");
+        if (wrong != 0) System.exit(1);
+    }
+}
