@@ -435,35 +435,29 @@ public final class FlockGaps {
         /** Words have eight letters at most, so that base 27 tells them apart in a long. */
         private void takeWord() {
             name = 0;
-            while (behind < length && isLetter(signs[behind])) {
+            while (behind < length && signs[behind] >= 'a' && signs[behind] <= 'z') {
                 name = name * 27 + (signs[behind] - 'a' + 1);
                 behind++;
             }
-            token = behind - start > WORD_SIGNS ? NO_TOKEN : wordNumber();
+            token = behind - start > WORD_SIGNS ? NO_TOKEN : WORD_OTHER;
+            long letters = 0;
+            for (int i = 0; i < WORDS.length() && token == WORD_OTHER; i++) {
+                char sign = WORDS.charAt(i);
+                letters = sign == ' ' ? letters : letters * 27 + (sign - 'a' + 1);
+                if (i % WORD_SIGNS == WORD_SIGNS - 1) {
+                    token = letters == name ? i / WORD_SIGNS : WORD_OTHER;
+                    letters = 0;
+                }
+            }
         }
 
         private void takeNumber() {
             value = 0;
-            while (behind < length && isDigit(signs[behind])) {
+            while (behind < length && signs[behind] >= '0' && signs[behind] <= '9') {
                 value = value * 10 + (signs[behind] - '0');
                 behind++;
             }
             token = behind - start > 4 ? NO_TOKEN : NUMBER;
-        }
-
-        private int wordNumber() {
-            long letters = 0;
-            for (int i = 0; i < WORDS.length(); i++) {
-                char sign = WORDS.charAt(i);
-                letters = isLetter(sign) ? letters * 27 + (sign - 'a' + 1) : letters;
-                if (i % WORD_SIGNS == WORD_SIGNS - 1) {
-                    if (letters == name) {
-                        return i / WORD_SIGNS;
-                    }
-                    letters = 0;
-                }
-            }
-            return WORD_OTHER;
         }
 
         private static boolean isLetter(char sign) {
@@ -607,23 +601,21 @@ public final class FlockGaps {
             fieldTold = false;
             tape.rewind();
             for (int i = 0; i < MOST_SIGNS && tape.token != END; i++) {
-                if (!readOne() || !passed(';')) {
+                boolean went;
+                switch (tape.token) {
+                    case WORD_FIELD: went = readField(); break;
+                    case WORD_BEAST: went = readBeast(); break;
+                    case WORD_LIKE: went = readLike(); break;
+                    case WORD_LIE: went = readLaw(told.lie); break;
+                    case WORD_MEADOW: went = readMeadow(); break;
+                    case WORD_STRAY: went = readLaw(told.stray); break;
+                    default: went = wrong(FAULT_TOKEN); break;
+                }
+                if (!went || !passed(';')) {
                     return fault;
                 }
             }
             return 0;
-        }
-
-        private boolean readOne() {
-            switch (tape.token) {
-                case WORD_FIELD: return readField();
-                case WORD_BEAST: return readBeast();
-                case WORD_LIKE: return readLike();
-                case WORD_LIE: return readLaw(told.lie);
-                case WORD_MEADOW: return readMeadow();
-                case WORD_STRAY: return readLaw(told.stray);
-                default: return wrong(FAULT_TOKEN);
-            }
         }
 
         private boolean wrong(int kind) {

@@ -155,6 +155,26 @@ public final class EveningEdgesTest {
         then(x, "01");
     }
 
+    private static void promise8_halvedForThoseThatLieBehindTheForeignOne() {
+        Edges.sentence(8, "half of it, cut, if one of them is foreign and lay here on fewer than 3 evenings");
+        FlockGaps x = of("field 4;beast f foreign tone 0;beast b ewe tone 9;like b f 9;lie (place = tone) * 50 + (place = 3) + (liking = 9) * 2;");
+        then(x, "03");
+        then(x, "03");
+        then(x, "03");
+        then(x, "01");
+    }
+
+    private static void promise8_oldIs1() {
+        Edges.sentence(8, "old (1 if that is its OLD PLACE)");
+        FlockGaps x = of("field 4;beast a ewe tone 0;lie (place = 2) * 5 - (old = 1) * 9;");
+        then(x, "2");
+        then(x, "0");
+        then(x, "2");
+        FlockGaps y = of("field 4;beast a ewe tone 0;lie (place = 2) * 5 - (1 < old) * 9;");
+        then(y, "2");
+        then(y, "2");
+    }
+
     // ---- promise 6
 
     private static void promise6_nobodyAndOthers() {
@@ -165,6 +185,9 @@ public final class EveningEdgesTest {
         for (int p = -2; p < 19; p++) due("place(" + p + ")", x.place(p), p == 0 ? 0 : p == 15 ? 1 : -1);
         due("far off", x.place(Integer.MIN_VALUE), -1);
         due("far off", x.place(Integer.MAX_VALUE), -1);
+        FlockGaps y = of("field 16;" + Edges.ewes(12));
+        y.evening(1);
+        for (int p = 0; p < 16; p++) due("place(" + p + ") of twelve", y.place(p), p < 12 ? p : -1);
         x.away(0, false);
         due("nobody, where one is away", x.place(0), -1);
         x.away(0, true);
@@ -327,6 +350,10 @@ public final class EveningEdgesTest {
         then(of("field 9;beast t twin tone 8;beast a ewe tone 3;lie place = tone;"), "83");
         then(of("field 9;beast a lame tone 3;beast t twin tone 8;lie place = tone;"), "38");
         then(of("field 9;beast a leader tone 3;beast t twin tone 8;lie place = tone;"), "32");
+        FlockGaps lame = of("field 9;beast a lame tone 3;beast t twin tone 8;lie place = tone;");
+        then(lame, "38");
+        // where the lame one lay on the evening before is not where it lies already
+        then(lame, "38");
         FlockGaps x = of("field 9;beast b ewe tone 5;beast a ewe tone 3;beast t twin tone 8;lie place = tone;");
         then(x, "532");
         x.away(1, false);

@@ -284,6 +284,49 @@ public final class FlockEdgesTest {
         due("count(1)", x.count(1), 5);
     }
 
+    private static final String FULL = "field 5;beast a lame tone 9;beast b ewe tone 8;like a b 9;meadow m grass 9 far 9;meadow n grass 8 far 8;"
+            + "lie place * 1 + 0 * 2;stray far * 2 + 0 * 7;";
+
+    /** That nothing of FULL is in that object behind a short text. */
+    private static void bare(FlockGaps x) {
+        due("flock() of a short text", Edges.read(x, "beast a blind tone 0;beast b ewe tone 0;meadow m grass 3 far 1;"), 0);
+        due("count(1)", x.count(1), 12);
+        due("count(2)", x.count(2), 0);
+        due("count(3)", x.count(3), 1);
+        due("liking(0, 1)", x.liking(0, 1), 0);
+        x.evening(1);
+        Edges.due("by liking, that is 0", Edges.lie(x), "b0");
+        x.away(0, false);
+        due("by grass", x.odds(0, 0, 0), 1);
+        due("pairs may be told", Edges.read(x, Edges.ewes(3) + "like a b 1;meadow m grass 0 far 1;meadow n grass 3 far 1;"), 0);
+        x.away(0, false);
+        due("grass 0 is no odds", x.odds(0, 0, 0), 0);
+        due("liking(1, 0)", x.liking(1, 0), 1);
+    }
+
+    private static void promise3_nothingOfAnEarlierFlockIsLeft() {
+        Edges.sentence(3, "Without a FAULT it is the FLOCK from then on");
+        for (int flocks = 1; flocks < 4; flocks++) {
+            FlockGaps x = new FlockGaps();
+            for (int i = 0; i < flocks; i++) due("flock()", Edges.read(x, FULL), 0);
+            bare(x);
+        }
+    }
+
+    private static void promise3_nothingOfATextWithAFaultIsLeft() {
+        Edges.sentence(3, "0, or its FAULT (all stays then).");
+        for (int faults = 1; faults < 3; faults++) {
+            FlockGaps x = new FlockGaps();
+            for (int i = 0; i < faults; i++) due("flock()", Edges.read(x, FULL + "?"), 1 + 16 * FULL.length());
+            due("count(0)", x.count(0), 0);
+            due("count(1)", x.count(1), 12);
+            bare(x);
+        }
+        FlockGaps y = of(FULL);
+        due("flock()", Edges.read(y, FULL + "field"), 3 + 16 * FULL.length());
+        bare(y);
+    }
+
     // ---- the first fault from the left
 
     private static void promise3_theEndIsAToken() {

@@ -385,6 +385,60 @@ public final class FogEdgesTest {
         due("none is gone", x.looks(1), -1);
     }
 
+    private static void promise19_askedAboutOneSetOfSetsBehindAnother() {
+        Edges.sentence(19, "The fewest LOOKS by which one knows the SET in the worst case");
+        FlockGaps x = lain("beast a ewe tone 0;beast b ewe tone 0;beast c ewe tone 1;beast d ewe tone 1;beast e ewe tone 1;beast f ewe tone 1;"
+                + "beast g ewe tone 2;beast h ewe tone 2;beast i ewe tone 2;beast j ewe tone 3;beast k ewe tone 3;beast l ewe tone 3;");
+        for (int round = 0; round < 2; round++) {
+            hear(x, 3, 3, 3, true, true);
+            due("one of four is gone, the others are sure", x.looks(0), 3);
+            hear(x, 4, 3, 3, false, false);
+            due("a and b", x.looks(0), 2);
+            hear(x, 3, 3, 3, false, true);
+            due("a, and one of four", x.looks(0), 4);
+            hear(x, 4, 3, 3, true, false);
+            due("b alone", x.looks(0), 1);
+            hear(x, 2, 3, 3, true, true);
+            due("two of four", x.fits(), 6);
+            due("two of four", x.looks(0), 3);
+            hear(x, 4, 2, 3, true, false);
+            due("b, and one of three", x.fits(), 6);
+            due("b, and one of three", x.looks(0), 3);
+            hear(x, 4, 2, 2, true, true);
+            due("one of three, twice", x.looks(0), 4);
+            hear(x, 4, 3, 3, true, true);
+            due("nobody is gone", x.looks(0), 0);
+        }
+    }
+
+    /** How many of the tones 1, 2 and 3 are there, and whether a and b surely are. */
+    private static void hear(FlockGaps x, int one, int two, int three, boolean a, boolean b) {
+        x.clear();
+        x.heard(1, one);
+        x.heard(2, two);
+        x.heard(3, three);
+        if (a) x.seen(0, false);
+        if (b) x.seen(1, false);
+    }
+
+    private static void promise19_sixSetsAndSixOthers() {
+        Edges.sentence(19, "The fewest LOOKS by which one knows the SET in the worst case");
+        FlockGaps x = lain(Edges.beasts(6, "ewe", 1) + "beast g ewe tone 2;beast h ewe tone 2;beast i ewe tone 2;beast j ewe tone 3;");
+        for (int round = 0; round < 2; round++) {
+            x.clear();
+            x.heard(1, 5);
+            x.heard(2, 3);
+            x.heard(3, 1);
+            due("one of six: fits()", x.fits(), 6);
+            due("one of six: looks(0)", x.looks(0), 5);
+            x.clear();
+            x.heard(1, 6);
+            x.heard(2, 2);
+            due("j, and one of three: fits()", x.fits(), 6);
+            due("j, and one of three: looks(0)", x.looks(0), 3);
+        }
+    }
+
     private static void promise19_ofEqualOnesTheLeast() {
         Edges.sentence(19, "the first PLACE to look at (of equal ones the least)");
         // places, not beasts: a lies behind b

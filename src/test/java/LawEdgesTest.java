@@ -142,6 +142,18 @@ public final class LawEdgesTest {
         due("blind in stray", x.odds(0, 0, 0), 3);
     }
 
+    private static void promise3_grassAndFarOfTheMeadow() {
+        Edges.sentence(3, "in stray also grass, far (of the MEADOW)");
+        FlockGaps x = of("beast a ewe tone 0;meadow m grass 0 far 99;meadow n grass 99 far 1;meadow o grass 7 far 5;stray far;");
+        x.away(0, false);
+        int[] far = {99, 1, 5};
+        for (int m = 0; m < 3; m++) due("by far", x.odds(0, m, 0) * 105 / x.odds(0, m, 1), far[m]);
+        FlockGaps y = of("beast a ewe tone 0;meadow m grass 0 far 99;meadow n grass 99 far 1;meadow o grass 7 far 5;stray grass + far;");
+        y.away(0, false);
+        int[] both = {99, 100, 12};
+        for (int m = 0; m < 3; m++) due("by both", y.odds(0, m, 0) * 211 / y.odds(0, m, 1), both[m]);
+    }
+
     private static void promise3_aBeastNamedAsAFact() {
         Edges.sentence(3, "PART: a NUMBER, a fact");
         FlockGaps x = of("beast place ewe tone 0;beast b ewe tone 0;field 4;lie place;");
@@ -329,6 +341,8 @@ public final class LawEdgesTest {
         first(2, "ewe", "edge * place", 1);
         first(2, "blind", "not edge", 1);
         first(3, "blind", "not edge", 1);
+        first(3, "ewe", "(place = 2) * (edge = 1)", 2);
+        first(3, "ewe", "(place = 1) * (edge = 0)", 1);
     }
 
     private static void promise8_aFieldOfOneIsAllEdge() {

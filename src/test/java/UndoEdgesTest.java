@@ -189,6 +189,49 @@ public final class UndoEdgesTest {
         Edges.due("all, but that nothing can be undone", Edges.all(x), laid);
     }
 
+    private static void promise24_whatIsToldOfFogIsHeldWhole() {
+        Edges.sentence(24, "what is told of FOG");
+        FlockGaps x = of(Edges.beasts(4, "ewe", 1) + "like a b 5;like b c 9;lie 0 - place;");
+        x.evening(1);
+        x.heard(1, 3);
+        x.uneasy(1, 9, true);
+        x.seen(3, false);
+        x.mark(0, false);
+        due("only c is gone", x.fits() * 100 + x.fit(0), 104);
+        x.clear();
+        x.uneasy(2, 99, false);
+        x.heard(1, 2);
+        x.seen(0, true);
+        x.seen(1, true);
+        due("a and b are gone", x.fits() * 100 + x.fit(0), 103);
+        x.mark(1, false);
+        due("mark(0, true)", x.mark(0, true), true);
+        due("count(6)", x.count(6), 3);
+        due("only c is gone", x.fits() * 100 + x.fit(0), 104);
+        due("mark(1, true)", x.mark(1, true), true);
+        due("count(6)", x.count(6), 4);
+        due("a and b are gone", x.fits() * 100 + x.fit(0), 103);
+    }
+
+    private static void promise24_theOldPlacesAndTheStrangersAreHeld() {
+        Edges.sentence(24, "where all lie, the evenings");
+        FlockGaps x = of("field 3;beast a ewe tone 0;beast f foreign tone 0;like a f 9;lie not old;");
+        x.evening(2);
+        Edges.due("they lie", Edges.lie(x), "10");
+        x.mark(0, false);
+        x.evening(2);
+        due("no stranger any more", x.liking(0, 1), 9);
+        x.away(0, false);
+        x.evening(1);
+        x.mark(0, true);
+        due("a stranger again", x.liking(0, 1), 4);
+        due("beside(0, 1)", x.beside(0, 1), 2);
+        due("uneasy(0, 4, true)", x.uneasy(0, 4, true), 1);
+        due("f is gone", x.sure(false), 2);
+        x.evening(1);
+        Edges.due("they lie", Edges.lie(x), "01");
+    }
+
     private static void promise24_nothingCanBeUndoneWhenOneIsGoneBackTo() {
         Edges.sentence(24, "(nothing can be undone when one is gone back to)");
         FlockGaps x = three();
