@@ -251,7 +251,7 @@ public final class FlockGaps {
             return NONE;
         }
         looker.prepare(herd, lying, guess);
-        return what == 0 ? looker.fewest(looker.all, 0) : looker.firstPlace();
+        return what == 0 ? looker.howMany() : looker.firstPlace();
     }
 
     public int odds(int beast, int meadow, int what) {
@@ -1121,11 +1121,11 @@ public final class FlockGaps {
 
     /** How few looks tell which of at most 16 sets it is; the sets are counted as bits here. */
     private static final class Looker {
-        int all;
+        private int all;
         /** For each place, in which of the sets the beast that lay there is gone. */
-        final int[] gone = new int[MOST_PLACES];
+        private final int[] gone = new int[MOST_PLACES];
         /** What was found for each choice of sets, four bits each, 0 where nothing was: small in elements. */
-        final long[] found = new long[1 << (MOST_LOOKED_AT - 4)];
+        private final long[] found = new long[1 << (MOST_LOOKED_AT - 4)];
 
         void prepare(Flock herd, Lying lying, Guess guess) {
             all = (1 << guess.many) - 1;
@@ -1144,8 +1144,22 @@ public final class FlockGaps {
             }
         }
 
+        int howMany() {
+            return fewest(all, 0);
+        }
+
+        int firstPlace() {
+            int best = fewest(all, 0);
+            for (int place = 0; place < MOST_PLACES && best > 0; place++) {
+                if (tells(place, all) && afterLook(place, all, 0) == best) {
+                    return place;
+                }
+            }
+            return NONE;
+        }
+
         /** No place is worth a second look, so no more looks stand open than there are places. */
-        int fewest(int among, int open) {
+        private int fewest(int among, int open) {
             if (Integer.bitCount(among) < 2 || open >= MOST_PLACES) {
                 return 0;
             }
@@ -1162,16 +1176,6 @@ public final class FlockGaps {
             }
             found[among >> 4] |= (long) (best & 15) << shift;
             return best;
-        }
-
-        int firstPlace() {
-            int best = fewest(all, 0);
-            for (int place = 0; place < MOST_PLACES && best > 0; place++) {
-                if (tells(place, all) && afterLook(place, all, 0) == best) {
-                    return place;
-                }
-            }
-            return NONE;
         }
 
         private boolean tells(int place, int among) {

@@ -7,6 +7,7 @@ import java.nio.file.Files;
 import java.nio.file.Path;
 import java.util.ArrayList;
 import java.util.Arrays;
+import java.util.HashSet;
 import java.util.List;
 import java.util.Set;
 import java.util.TreeSet;
@@ -78,10 +79,16 @@ public final class LanguageTest {
         }
     }
 
+    /** The text without comments; S stands for each constant text. */
+    private static String bare() throws Exception {
+        String text = Files.readString(Path.of("src/main/java/FlockGaps.java"));
+        return text.replaceAll("(?s)/\\*.*?\\*/", "").replaceAll("\"[^\"\n]*\"", "S").replaceAll("//[^\n]*", "");
+    }
+
     private static void text() throws Exception {
         String text = Files.readString(Path.of("src/main/java/FlockGaps.java"));
         for (char sign : text.toCharArray()) if (sign > 126) fail("a sign beyond 126");
-        String bare = text.replaceAll("(?s)/\\*.*?\\*/", "").replaceAll("\"[^\"\n]*\"", "S").replaceAll("//[^\n]*", "");
+        String bare = bare();
         String[] forbidden = {"\\bthrow\\b", "\\bthrows\\b", "\\btry\\b", "\\bcatch\\b", "\\bsynchronized\\b", "\\bassert\\b", "->", "::",
             "\\bpackage\\b", "\\bstatic \\{", "Exact\\b", "\\bObject\\b", "\\bhashCode\\b", "\\bequals\\b", "\\bvar\\b", "while \\(true", "\\bS \\+|\\+ S\\b"};
         for (String f : forbidden) {
@@ -100,9 +107,82 @@ public final class LanguageTest {
         }
     }
 
+    /** A method of the text: its class, its name, whether it is private, and what stands in it. */
+    private record Written(String owner, String name, boolean hidden, String body) { }
+
+    private static List<Written> methods(String bare) {
+        List<Written> all = new ArrayList<>();
+        List<String> lines = bare.lines().toList();
+        String owner = "FlockGaps";
+        for (int i = 0; i < lines.size(); i++) {
+            Matcher inside = Pattern.compile("^    private static .*class (\\w+)").matcher(lines.get(i));
+            if (inside.find()) owner = inside.group(1);
+            Matcher m = Pattern.compile("^( {4}| {8})((?:\\w+ )*)[\\w\\[\\]]+ (\\w+)\\([^)]*\\) \\{$").matcher(lines.get(i));
+            if (!m.find() || Set.of("if", "for", "while", "switch").contains(m.group(3))) continue;
+            StringBuilder body = new StringBuilder();
+            while (!lines.get(++i).equals(m.group(1) + "}")) body.append(lines.get(i)).append('\n');
+            all.add(new Written(owner, m.group(3), m.group(2).contains("private"), body.toString()));
+        }
+        return all;
+    }
+
+    /** Those that a method may call, by their names: more than it does, never fewer. */
+    private static List<Written> calledBy(Written from, List<Written> all) {
+        List<Written> called = new ArrayList<>();
+        for (Written to : all) {
+            String call = to.owner().equals(from.owner()) ? "\\b" : "\\.";
+            if (Pattern.compile(call + to.name() + "\\(").matcher(from.body()).find()) called.add(to);
+        }
+        return called;
+    }
+
+    private static void reach(Written from, List<Written> all, Set<Written> reached) {
+        for (Written to : calledBy(from, all)) if (reached.add(to)) reach(to, all, reached);
+    }
+
+    /** The longest chain of calls from here on, none of them twice; a chain of recursion counts each method once. */
+    private static int chain(Written from, List<Written> all, List<Written> open) {
+        int most = 0;
+        open.add(from);
+        for (Written to : calledBy(from, all)) if (!open.contains(to)) most = Math.max(most, chain(to, all, open));
+        open.remove(open.size() - 1);
+        return most + 1;
+    }
+
+    /** Rules 8 and 11: "private methods that call one another", "calls that are no recursion go at most eight deep". */
+    private static void calls() throws Exception {
+        String bare = bare();
+        List<Written> all = methods(bare);
+        if (all.size() < FACE.length * 2) fail("the methods are not found in the text: " + all.size());
+        for (Written m : all) {
+            Set<Written> reached = new HashSet<>();
+            reach(m, all, reached);
+            if (reached.contains(m) && !m.hidden()) fail("calls itself and is not private: " + m.owner() + "." + m.name());
+            int deep = chain(m, all, new ArrayList<>());
+            if (deep > 8) fail("calls go " + deep + " deep from " + m.owner() + "." + m.name());
+        }
+    }
+
+    /** Rule 4: "The library: only what stands here"; of it the class uses this much. */
+    private static void library() throws Exception {
+        String bare = bare();
+        Set<String> own = new TreeSet<>(Set.of("if", "for", "while", "switch"));
+        for (Written m : methods(bare)) own.add(m.name());
+        for (Class<?> inside : FlockGaps.class.getDeclaredClasses()) own.add(inside.getSimpleName());
+        own.add("FlockGaps");
+        Set<String> listed = Set.of("Arrays.fill", "System.arraycopy", "Integer.bitCount", "Math.abs", "Math.max", "Math.min",
+                "WORDS.length", "WORDS.charAt", "S.indexOf");
+        Matcher call = Pattern.compile("((?:\\w+\\.)?(\\w+))\\(").matcher(bare);
+        while (call.find()) {
+            if (!listed.contains(call.group(1)) && !own.contains(call.group(2))) fail("not in the library: " + call.group(1));
+        }
+    }
+
     public static void main(String[] args) throws Exception {
         face();
         text();
+        calls();
+        library();
         System.out.println(wrong == 0 ? "the face and the language are as told" : wrong + " rules are broken");
         if (wrong != 0) System.exit(1);
     }
